@@ -136,7 +136,6 @@ public final class MailLines {
         greeted = false;
         inText = false;
         line.clear();
-        text.clear();
         envelope.clear();
     }
 
@@ -286,7 +285,6 @@ public final class MailLines {
             letterCount++;
         }
         envelope.clear();
-        text.clear();
         inText = false;
     }
 

@@ -35,6 +35,13 @@ public final class ModelTest {
     }
 
     private void run() {
+        // Some runs begin with nearly as many messages as there may be.
+        if (random.nextInt(4) == 0) {
+            feed("LHLO x\r\n");
+            for (int k = 0; k < 9; k++) {
+                feed("MAIL FROM:<>\r\nRCPT TO:<a@here>\r\nDATA\r\n" + k + "\r\n.\r\n");
+            }
+        }
         while (calls < CALLS) {
             int kind = random.nextInt(40);
             if (kind < 16) {
