@@ -67,8 +67,11 @@ public final class MailLines {
 
     public boolean open() {
         boolean was = inSession;
-        forgetSession();
         inSession = true;
+        greeted = false;
+        inText = false;
+        line.clear();
+        envelope.clear();
         return was;
     }
 
@@ -129,14 +132,6 @@ public final class MailLines {
 
     private Letter letterOrNull(int k) {
         return k >= 0 && k < letterCount && k < letters.length ? letters[k] : null;
-    }
-
-    private void forgetSession() {
-        inSession = false;
-        greeted = false;
-        inText = false;
-        line.clear();
-        envelope.clear();
     }
 
     private void takeByte(int b) {
@@ -263,7 +258,8 @@ public final class MailLines {
         if (!Grammar.isBareWord(told)) {
             return SYNTAX;
         }
-        forgetSession();
+        // Sender and recipients stay told: QUIT is not said to forget them, open begins anew.
+        inSession = false;
         return "221 bye";
     }
 

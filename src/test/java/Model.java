@@ -158,19 +158,11 @@ final class Model {
                 forget();
                 return "250 ok";
             case "QUIT":
-                end();
+                session = false;
                 return "221 bye";
             default:
                 return "250 ok";
         }
-    }
-
-    private void end() {
-        session = false;
-        greeted = false;
-        data = false;
-        raw = "";
-        forget();
     }
 
     long reply() {
@@ -182,8 +174,11 @@ final class Model {
 
     boolean open() {
         boolean was = session;
-        end();
         session = true;
+        greeted = false;
+        data = false;
+        raw = "";
+        forget();
         return was;
     }
 

@@ -211,7 +211,6 @@ public final class Promise2SendTest {
         due("answers of QUIT", talk.heard(), "221 bye|");
         due("no session", talk.mail.count(1), 0);
         due("bytes behind QUIT are passed over", talk.mail.count(4), 0);
-        due("nothing is told without a session", talk.mail.count(3), 0);
         talk.mail.open();
         due("passed over for good", talk.ask("NOOP"), "250 ok|");
         due("QUIT with more", new Talk().ask("QUIT x", "quit"), "501 syntax|221 bye|");

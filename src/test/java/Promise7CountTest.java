@@ -6,6 +6,7 @@ public final class Promise7CountTest {
         }
         commandLine();
         messageLines();
+        recipientsTold();
         waiting();
         Talk.finish();
     }
@@ -62,6 +63,33 @@ public final class Promise7CountTest {
         Talk.due("a message", talk.mail.count(0), 1);
         talk.ask("QUIT");
         Talk.due("no session", talk.mail.count(1), 0);
+    }
+
+    private static void recipientsTold() {
+        Talk talk = Talk.addressed();
+        Talk.due("one is told", talk.mail.count(3), 1);
+        talk.ask("RCPT TO:<far@away>", "RCPT TO:<", "MAIL FROM:<>", "LHLO", "RSET x", "NOOP", "QUIT x");
+        Talk.due("what is refused forgets none", talk.mail.count(3), 1);
+        talk.ask("RCPT TO:<b@here>", "RCPT TO:<c@here>", "RCPT TO:<d@here>", "RCPT TO:<e@here>");
+        Talk.due("four and no more", talk.mail.count(3), 4);
+        talk.ask("QUIT");
+        Talk.due("QUIT forgets none", talk.mail.count(3), 4);
+        talk.lines("RSET");
+        Talk.due("nothing is heeded behind QUIT", talk.mail.count(3), 4);
+        talk.mail.open();
+        Talk.due("a session that begins anew has none", talk.mail.count(3), 0);
+
+        talk = Talk.addressed();
+        talk.ask("RSET");
+        Talk.due("RSET forgets", talk.mail.count(3), 0);
+        talk.ask("QUIT");
+        Talk.due("forgotten ahead of QUIT", talk.mail.count(3), 0);
+        talk = Talk.addressed();
+        talk.ask("LHLO y");
+        Talk.due("LHLO forgets", talk.mail.count(3), 0);
+        talk = Talk.addressed();
+        talk.ask("DATA", ".", "QUIT");
+        Talk.due("forgotten behind a message", talk.mail.count(3), 0);
     }
 
     private static void waiting() {
