@@ -460,7 +460,6 @@ public final class MailLines {
         }
 
         void clear() {
-            sender.clear();
             senderTold = false;
             recipients = 0;
         }

@@ -4,7 +4,7 @@ public final class Promise6BytesTest {
         Talk talk = Talk.greeted();
         talk.ask("MAIL FROM:<joe@far.net>", "RCPT TO:<ann.b@HERE>", "RCPT TO:<c@here>", "DATA",
             "\u00ff\u00fe\0abcdefgh", ".", "MAIL FROM:<>", "RCPT TO:<d@here>", "DATA", ".");
-        MailLines mail = talk.mail;
+        Counted mail = talk.mail;
         String text = "\u00ff\u00fe\0abcdefgh\r\n";
         Talk.due("text", talk.part(0, 0, 13), text);
         Talk.due("sender", talk.part(0, 1, 11), "joe@far.net");

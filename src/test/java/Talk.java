@@ -4,9 +4,7 @@ import java.nio.charset.StandardCharsets;
 final class Talk {
     private static int wrong = 0;
 
-    final MailLines mail = new MailLines();
-    /** Calls made so far; an object is promised for 512. */
-    private int calls = 0;
+    final Counted mail = new Counted();
 
     /** Sends a text, eight bytes a call; whether every call was taken. */
     boolean say(String told) {
@@ -18,7 +16,6 @@ final class Talk {
             for (int i = 0; i < n; i++) {
                 v = (v << 8) | (all[from + i] & 255);
             }
-            calls++;
             taken &= mail.send(v, n);
         }
         return taken;
@@ -37,7 +34,6 @@ final class Talk {
         StringBuilder all = new StringBuilder();
         long word;
         do {
-            calls++;
             word = mail.reply();
             int n = (int) (word >>> 56);
             if (n > 7) {
@@ -52,9 +48,6 @@ final class Talk {
                 }
             }
         } while (word != 0);
-        if (calls > 512) {
-            throw new IllegalStateException("a test used an object for " + calls + " calls");
-        }
         return all.toString().replace("\r\n", "|");
     }
 
@@ -76,6 +69,32 @@ final class Talk {
         Talk talk = greeted();
         talk.ask("MAIL FROM:<joe@far.net>", "RCPT TO:<ann@here>");
         return talk;
+    }
+
+    /** A session with no answers waiting, behind the lines. */
+    static Talk behind(String... told) {
+        Talk talk = new Talk();
+        talk.ask(told);
+        return talk;
+    }
+
+    /** All that message(), bytes() and count() show, of which none changes anything. */
+    String shown() {
+        StringBuilder all = new StringBuilder("counts");
+        for (int what = 0; what < 6; what++) {
+            all.append(' ').append(mail.count(what));
+        }
+        int messages = mail.count(0);
+        for (int k = 0; k <= messages; k++) {
+            all.append(", message ").append(k);
+            for (int what = 0; what < 4; what++) {
+                all.append(' ').append(mail.message(k, what));
+            }
+            for (int part = 0; part < 3; part++) {
+                all.append(' ').append(mail.bytes(k, part, 0)).append(' ').append(mail.bytes(k, part, 8));
+            }
+        }
+        return all.toString();
     }
 
     /** The bytes of a part of a message, as bytes() tells them. */
